@@ -140,7 +140,7 @@ public final class PageTest {
     private static void goodTexts() {
         good("m10,t93;101", 2, 1);
         good("m10,t93;101939", 2, 2);
-        good("m10,t93,b50;101939555".replace("555", "515"), 3, 3);
+        good("m10,t93,b50;101939515", 3, 3);
         good("m10,t93,b50,i91;101939515212", 4, 4);
         good("h11,h11,h11,h11;111", 4, 1);
     }
