@@ -440,6 +440,7 @@ public final class RefusedTest {
         refused("restore(), no station", RefusedTest::none, x -> x.restore(), STATE);
         refused("restore(), none was kept", RefusedTest::fresh, x -> x.restore(), STATE);
         refused("restore(), none was kept, one hangs", RefusedTest::oneHangs, x -> x.restore(), STATE);
+        refused("restore(), none was kept, busy", () -> worked(fresh()), x -> x.restore(), STATE);
     }
 
     private static void restoreBehindAStation() {
@@ -452,7 +453,17 @@ public final class RefusedTest {
         x.blank();
         Due.type(x, text);
         x.station();
+        return worked(x);
+    }
+
+    /** What an image would keep, all of it, and no image. */
+    private static ConfessBySize worked(ConfessBySize x) {
         x.confess(0, 0);
+        x.alter(1, true);
+        x.tried(1, 0, true);
+        x.tried(0, 1, false);
+        x.stitches();
+        Due.type(x, "m50");
         return x;
     }
 

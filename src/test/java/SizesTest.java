@@ -281,6 +281,9 @@ public final class SizesTest {
         T.due("let out to 8", hangs.crime(0, 5), 1);
         hangs.alter(0, true);
         T.due("let out to 9", hangs.crime(0, 5), 2);
+        ConfessBySize three = Due.opened("m40,m50,m90;901");
+        three.confess(2, 0);
+        T.due("it hangs, and two could go halves", three.crime(0, 5), 1);
     }
 
     /** "10 times the lesser number, and the greater one, together": the least of those that could, from 01 to 23. */

@@ -1,3 +1,6 @@
+import java.util.ArrayList;
+import java.util.List;
+
 /** All that the calls tell of an object without changing it, and whether two objects tell the same of themselves. */
 final class Told {
     private static final int MOST = 200;
@@ -34,6 +37,15 @@ final class Told {
         told.note("fault()", x.fault());
         told.note("digest()", x.digest());
         return told;
+    }
+
+    /** The calls that one answers otherwise than the other. */
+    static List<String> differing(Told one, Told other) {
+        List<String> calls = new ArrayList<>();
+        for (int i = 0; i < one.many; i++) {
+            if (one.answers[i] != other.answers[i]) calls.add(one.calls[i]);
+        }
+        return calls;
     }
 
     static void same(Due t, String why, Told got, Told want) {
