@@ -1,7 +1,8 @@
-/** All promises: long mixed runs of calls, each answer against the model's, with arguments in and out of bounds. */
+/** All promises: runs of up to 512 mixed calls, each answer against the model's, with arguments in bounds and out. */
 public final class ModelTest {
     private static final Due T = new Due();
-    private static final int RUNS = 600, CALLS = 512;
+    /** 33 calls are the most that one step makes: blank, 29 letters, fault, station, digest; one more ends the run. */
+    private static final int RUNS = 600, CALLS = 512, OF_A_STEP = 33;
     private static final int[] FAR = {Integer.MIN_VALUE, -2, -1, 4, 5, 9, 14, 61, 127, Integer.MAX_VALUE};
     private static long seed = 20261118;
 
@@ -25,11 +26,12 @@ public final class ModelTest {
     }
 
     private void go() {
-        while (calls < CALLS) {
-            if (draw(60) == 0 || x.count(0) == 0 && draw(3) > 0) typeStation();
+        while (calls + OF_A_STEP < CALLS) {
+            if (draw(60) == 0 || m.count(0) == 0 && draw(3) > 0) typeStation();
             else one();
         }
         same("digest", x.digest(), m.digest());
+        T.due("run " + run + ": no more calls than are promised", calls <= CALLS);
     }
 
     private void same(String call, long got, long want) {
@@ -83,8 +85,8 @@ public final class ModelTest {
     }
 
     private void one() {
-        int p = number(draw(5) == 0 ? 4 : Math.max(1, x.count(0)));
-        int c = number(draw(5) == 0 ? 4 : Math.max(1, x.count(1)));
+        int p = number(draw(5) == 0 ? 4 : Math.max(1, m.count(0)));
+        int c = number(draw(5) == 0 ? 4 : Math.max(1, m.count(1)));
         boolean yes = draw(2) == 0;
         switch (draw(24)) {
             case 0, 1, 2, 3 -> same("confess", x.confess(p, c), m.confess(p, c));
@@ -113,7 +115,7 @@ public final class ModelTest {
 
     /** Half of what is tried is so, by his own size: then some sizes are left. */
     private void tried(int p, int c, boolean yes) {
-        boolean fits = draw(2) == 0 ? yes : (x.about(p, 6) >> Math.floorMod(c, 4) & 1) == 1;
+        boolean fits = draw(2) == 0 ? yes : (m.about(p, 6) >> Math.floorMod(c, 4) & 1) == 1;
         same("tried", x.tried(p, c, fits), m.tried(p, c, fits));
     }
 

@@ -11,6 +11,8 @@ public final class SizesTest {
         irishCountsOneMore();
         thiefBearsTwoOfAnyHand();
         handsAlike();
+        bitsOfTwoAndFour();
+        bitsOfFourAndOne();
         alteredFromOneToNine();
         alteredByOne();
         alteredOnNobodyAlone();
@@ -19,10 +21,14 @@ public final class SizesTest {
         stitchesOfAll();
         stitchesOneEach();
         stitchesTheFewest();
+        stitchesInAll();
+        stitchesOfTheLast();
+        stitchesOfThoseLeft();
         stitchesAlterNothing();
         halvesJustAsMuch();
         halvesOfTheIrish();
         halvesByOneHand();
+        halvesOfEachCrime();
         halvesOfAnyTwo();
         halvesTheLeast();
         largeFromOneToNine();
@@ -103,6 +109,25 @@ public final class SizesTest {
                 }
             }
         }
+    }
+
+    // ---- promises 6 and 8: "which CRIMES FIT him, as bits", "whom it FITS, as bits"
+
+    private static void bitsOfTwoAndFour() {
+        ConfessBySize x = Due.opened("m50,b50;901801601501");
+        T.due("the last two fit the man", x.about(0, 6), 12);
+        T.due("the last fits the boy", x.about(1, 6), 8);
+        int[] want = {0, 0, 1, 3};
+        for (int c = 0; c < 4; c++) T.due("whom " + c + " fits", x.crime(c, 4), want[c]);
+        T.due("all four fit", Due.opened("t50,t50;701601401301").about(1, 6), 15);
+    }
+
+    private static void bitsOfFourAndOne() {
+        ConfessBySize x = Due.opened("m50,m60,m70,m80;801");
+        T.due("it fits the last two", x.crime(0, 4), 12);
+        int[] want = {0, 0, 1, 1};
+        for (int p = 0; p < 4; p++) T.due("what fits " + p, x.about(p, 6), want[p]);
+        T.due("it fits all four", Due.opened("m50,t50,b50,i50;501").crime(0, 4), 15);
     }
 
     // ---- terms 1: "A CRIME is ALTERED by 1 (let out, or taken in; 1 to 9), while it HANGS on nobody: a STITCH"
@@ -210,6 +235,57 @@ public final class SizesTest {
         stitches("t30,m50,h71;511101601", 0);
     }
 
+    /** All of them together are counted: the way that is fewest for one crime, or for the rest, may be more in all. */
+    private static void stitchesInAll() {
+        stitches("m50,m80;501601", 1);
+        stitches("m80,m50;501601", 1);
+        stitches("m50,m80;701801", 1);
+        stitches("m80,m50;701801", 1);
+        stitches("m10,m50,m80;101501601", 1);
+        stitches("m10,m80,m50;101501601", 1);
+        stitches("m10,m50,m80;101701801", 1);
+        stitches("m10,m80,m50;101701801", 1);
+        stitches("m50,m80;301801", 1);
+        stitches("m80,m50;301901", 1);
+    }
+
+    /** The fourth crime, and the fourth person, of sizes near 1 and 9: by no more than any other. */
+    private static void stitchesOfTheLast() {
+        stitches("m90,m90,m90,m10;901901901201", 0);
+        stitches("m90,m90,m90,m10;901901901301", 1);
+        stitches("m90,m90,m90,m10;901901901401", 2);
+        stitches("m10,m10,m10,m90;101101101801", 0);
+        stitches("m10,m10,m10,m90;101101101701", 1);
+        stitches("m10,m10,m10,m90;101101101601", 2);
+        stitches("m10,m90,m90,m90;901901901301", 1);
+        stitches("m90,m10,m10,m10;101101101701", 1);
+    }
+
+    /** What hangs takes none but him on whom it hangs out of those who may. */
+    private static void stitchesOfThoseLeft() {
+        ConfessBySize first = Due.opened("m50,m80;801501");
+        first.confess(1, 0);
+        T.due("the first crime hangs on the last person", first.stitches(), 0);
+        ConfessBySize last = Due.opened("m50,m80;801501");
+        last.confess(0, 1);
+        T.due("the last crime hangs on the first person", last.stitches(), 0);
+        String[] crimes = {"101", "401", "701", "901"};
+        for (int hangs = 0; hangs < 4; hangs++) {
+            for (int on = 0; on < 4; on++) {
+                ConfessBySize x = Due.opened("m10,m40,m70,m90;" + turned(crimes, on - hangs));
+                T.due("confess()", x.confess(on, hangs), 1);
+                T.due(hangs + " hangs on " + on + ": stitches()", x.stitches(), 0);
+            }
+        }
+    }
+
+    /** Turned round: crime c of the text is crime c + by of these, and fits person c + by alone. */
+    private static String turned(String[] crimes, int by) {
+        StringBuilder text = new StringBuilder();
+        for (int c = 0; c < crimes.length; c++) text.append(crimes[Math.floorMod(c + by, crimes.length)]);
+        return text.toString();
+    }
+
     /** It tells by how few, and makes none: sizes and the count of those made stay. */
     private static void stitchesAlterNothing() {
         ConfessBySize x = Due.opened("m50,m80;801501");
@@ -259,6 +335,21 @@ public final class SizesTest {
         halves("h21,m31;501", 1);
         halves("m21,h31;501", 1);
         halves("b21,b30;501", 1);
+    }
+
+    /** "like its own": another crime's size and hand do not matter, be it ahead or behind. */
+    private static void halvesOfEachCrime() {
+        halvesOfAll("m20,m30;501511", 1, NONE);
+        halvesOfAll("m20,m30;511501", NONE, 1);
+        halvesOfAll("m20,m30;501601", 1, NONE);
+        halvesOfAll("m20,m30;601501", NONE, 1);
+        halvesOfAll("m20,m31,m10;501511521301", 1, 1, NONE, 2);
+        halvesOfAll("m12,m20,m32;401421322501", NONE, 2, 1, 12);
+    }
+
+    private static void halvesOfAll(String text, int... want) {
+        ConfessBySize x = Due.opened(text);
+        for (int c = 0; c < want.length; c++) T.due("halves of " + c + " in " + text, x.crime(c, 5), want[c]);
     }
 
     /** "any two, BOYS, too, whatever they CONFESSED", and whatever of it hangs. */

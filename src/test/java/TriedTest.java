@@ -170,14 +170,20 @@ public final class TriedTest {
     private static void weeks() {
         int[] kinds = {0, 2, 1};
         int[] rewards = {3, 5, 8};
-        ConfessBySize x = Due.opened("m50,b50,t60;403505808");
-        int[] none = {-1, -1, -1};
-        weeks(x, "at first", kinds, rewards, new int[] {3, 2, 7}, none);
-        x.confess(0, 0);
-        x.confess(2, 1);
-        weeks(x, "two have confessed", kinds, rewards, new int[] {3, 2, 7}, new int[] {0, -1, 1});
-        x.alter(2, true);
-        weeks(x, "one is let out", kinds, rewards, new int[] {3, 2, 3}, new int[] {0, -1, 1});
+        weeks(ofWeeks(), "at first", kinds, rewards, new int[] {3, 2, 7}, new int[] {-1, -1, -1});
+        ConfessBySize two = ofWeeks();
+        two.confess(0, 0);
+        two.confess(2, 1);
+        weeks(two, "two have confessed", kinds, rewards, new int[] {3, 2, 7}, new int[] {0, -1, 1});
+        ConfessBySize letOut = ofWeeks();
+        letOut.confess(0, 0);
+        letOut.confess(2, 1);
+        letOut.alter(2, true);
+        weeks(letOut, "one is let out", kinds, rewards, new int[] {3, 2, 3}, new int[] {0, -1, 1});
+    }
+
+    private static ConfessBySize ofWeeks() {
+        return Due.opened("m50,b50,t60;403505808");
     }
 
     private static void weeksRefuse() {

@@ -16,6 +16,7 @@ public final class WrapTest {
         sixtyOfTheGreatest();
         whoComes();
         whichCrime();
+        drawsRoundDown();
         whoRecants();
         crimeIsDrawnForOneWhoRecants();
         digestWraps();
@@ -71,26 +72,50 @@ public final class WrapTest {
 
     /** "one by a DRAW of how many there are comes": he is drawn ahead of the crime; if he is the thief, it hangs. */
     private static void whoComes() {
-        for (String people : THIEF_AMONG_BOYS) {
-            int many = (people.length() + 1) / 4;
-            int thief = people.indexOf('h') / 4;
-            ConfessBySize x = Due.opened(people + ";501");
-            for (int seed : SEEDS) {
-                int want = drawn(next(seed, 1), many) == thief ? 1 : 0;
-                T.due("weeks(1, " + seed + ", 0) of " + people, x.weeks(1, seed, 0), want);
-            }
+        for (String people : THIEF_AMONG_BOYS) whoComes(people, SEEDS);
+    }
+
+    private static void whoComes(String people, int... seeds) {
+        int many = (people.length() + 1) / 4;
+        int thief = people.indexOf('h') / 4;
+        ConfessBySize x = Due.opened(people + ";501");
+        for (int seed : seeds) {
+            int want = drawn(next(seed, 1), many) == thief ? 1 : 0;
+            T.due("weeks(1, " + seed + ", 0) of " + people, x.weeks(1, seed, 0), want);
         }
     }
 
     /** "for the CRIME by a DRAW of how many there are": the reward tells which it was. */
     private static void whichCrime() {
-        for (int many = 1; many <= 4; many++) {
-            ConfessBySize x = Due.opened("h50,h50,h50,h50;" + CRIMES.substring(0, 3 * many));
-            for (int seed : SEEDS) {
-                int want = 1 + 2 * drawn(next(seed, 2), many);
-                T.due("weeks(1, " + seed + ", 1) of " + many, x.weeks(1, seed, 1), want);
+        for (int many = 1; many <= 4; many++) whichCrime(many, SEEDS);
+    }
+
+    private static void whichCrime(int many, int... seeds) {
+        ConfessBySize x = Due.opened("h50,h50,h50,h50;" + CRIMES.substring(0, 3 * many));
+        for (int seed : seeds) {
+            int want = 1 + 2 * drawn(next(seed, 2), many);
+            T.due("weeks(1, " + seed + ", 1) of " + many, x.weeks(1, seed, 1), want);
+        }
+    }
+
+    /** "by 65536 (rounded down)": draws at a multiple of it, and one below, where the number drawn is another. */
+    private static void drawsRoundDown() {
+        for (int multiple : new int[] {0, 1, 2, 3, 4, 5, 16384, 32766, 32767}) {
+            for (int off = -1; off <= 1; off++) {
+                BigInteger at = BigInteger.valueOf(65536L * multiple + off).mod(BigInteger.TWO.pow(31));
+                int first = before(at).intValue();
+                T.due("the seed ahead", next(first, 1).intValue(), at.intValue());
+                for (String people : THIEF_AMONG_BOYS) whoComes(people, first);
+                for (int many = 1; many <= 4; many++) whichCrime(many, before(before(at)).intValue());
             }
         }
+    }
+
+    /** Of which seed this is the next one: 1103515245 is odd, so there is one alone. */
+    private static BigInteger before(BigInteger seed) {
+        BigInteger all = BigInteger.TWO.pow(31);
+        BigInteger back = BigInteger.valueOf(1103515245).modInverse(all);
+        return seed.subtract(BigInteger.valueOf(12345)).multiply(back).mod(all);
     }
 
     /** "if he has CONFESSED one he RECANTS", whichever crime he came for. */
